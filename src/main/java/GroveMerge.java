@@ -22,7 +22,6 @@ public final class GroveMerge {
     private int takenIn = NONE;
 
     public GroveMerge() {
-        history.append(working, NONE, NONE);
     }
 
     public int insert(int parent, int place, int label)
@@ -243,8 +242,7 @@ public final class GroveMerge {
         final int[] held = new int[MAX_NODES];
 
         Tree() {
-            Arrays.fill(rank, NONE);
-            rank[ROOT] = 0;
+            becomeRootAlone();
             parent[ROOT] = NONE;
         }
 
@@ -374,9 +372,9 @@ public final class GroveMerge {
         }
     }
 
-    /** The commits: their trees and how they stand over one another. */
+    /** The commits: their trees and how they stand over one another; commit 0 is there at first. */
     private static final class History {
-        int size = 0;
+        int size = 1;
         final Tree[] tree = new Tree[MAX_COMMITS];
         final int[] first = new int[MAX_COMMITS];
         final int[] second = new int[MAX_COMMITS];
@@ -387,6 +385,8 @@ public final class GroveMerge {
             for (int i = 0; i < MAX_COMMITS; i++) {
                 tree[i] = new Tree();
             }
+            first[0] = NONE;
+            second[0] = NONE;
         }
 
         /** A new commit, of which the caller knows that there is room for it: its number. */

@@ -39,6 +39,7 @@ final class PromiseTest {
         test.distance();
         test.state();
         test.above();
+        test.fullTree();
         test.check.end();
     }
 
@@ -818,5 +819,43 @@ final class PromiseTest {
             check.fails("above " + far, MISSING, () -> x.above(far, 0));
             check.fails("above number " + far, OUTSIDE, () -> x.above(3, far));
         }
+    }
+
+    /** All that reads or builds a tree, on one with all 24 nodes and behind 12 commits. */
+    private void fullTree() {
+        GroveMerge x = new GroveMerge();
+        for (int i = 1; i < 24; i++) {
+            x.insert((i - 1) / 2, (i - 1) % 2, i % 2);
+        }
+        x.commit();
+        x.relabel(23, 5);
+        x.move(1, 0, 1);
+        x.commit();
+        x.checkout(1);
+        x.move(23, 2, 2);
+        for (int i = 3; i < 12; i++) {
+            x.commit();
+        }
+        check.is("all below", 23, () -> x.count(path(step(2, 7))));
+        check.is("children of all below", 21, () -> x.count(path(step(2, 6), step(1, 6))));
+        check.is("behind all below", 12, () -> x.count(path(step(2, 6), step(3, 6))));
+        check.is("the last of all", 23, () -> x.find(path(step(2, 6)), 22));
+        check.is("alike the last", 15, () -> x.alike(23));
+        check.is("the last child", 23, () -> x.child(2, 2));
+        check.is("distance of a moved leaf", 2, () -> x.distance(1, 11));
+        check.is("distance to the root alone", 23, () -> x.distance(11, 0));
+        check.is("base of the last", 1, () -> x.base(2, 11));
+        check.is("merge full trees", 0, () -> x.merge(2));
+        check.is("a label of theirs", 5, () -> x.about(23, 0));
+        check.is("a parent of ours", 2, () -> x.about(23, 1));
+        check.is("the order of ours", 1, () -> x.child(0, 0));
+        check.is("all are there", 24, () -> x.nodes(false));
+        check.is("delete below the root", 15, () -> x.delete(1));
+        x.checkout(0);
+        check.is("merge a full tree into the root", 0, () -> x.merge(11));
+        check.is("all came in", 24, () -> x.nodes(false));
+        x.checkout(11);
+        check.is("merge the root into a full tree", 0, () -> x.merge(0));
+        check.is("all stay", 24, () -> x.nodes(false));
     }
 }
