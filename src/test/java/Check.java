@@ -15,6 +15,8 @@ final class Check {
     private static final int SHOWN = 40;
 
     private final String name;
+    private String sentence = "";
+    private int checksAtSentence = -1;
     private int checks = 0;
     private int wrong = 0;
 
@@ -37,12 +39,26 @@ final class Check {
         }).replaceFirst("^0$", "done");
     }
 
+    /** Says of which words of the document the checks that follow are; words without a check are wrong. */
+    void sentence(String words) {
+        endSentence();
+        sentence = "\"" + words + "\": ";
+        checksAtSentence = checks;
+    }
+
+    private void endSentence() {
+        if (checks == checksAtSentence) {
+            wrong++;
+            System.out.println(sentence + "nothing is checked");
+        }
+    }
+
     void same(String what, Object got, Object due) {
         checks++;
         if (!Objects.equals(got, due)) {
             wrong++;
             if (wrong <= SHOWN) {
-                System.out.println(what + " answered " + got + ", due is " + due);
+                System.out.println(sentence + what + " answered " + got + ", due is " + due);
             }
         }
     }
@@ -60,6 +76,7 @@ final class Check {
     }
 
     void end() {
+        endSentence();
         System.out.println(name + ": " + checks + " checks, " + wrong + " wrong");
         if (wrong != 0 || checks == 0) {
             System.exit(1);

@@ -43,46 +43,8 @@ final class PromiseTest {
         test.check.end();
     }
 
-    /** 0(1(3 4(6)) 2(5)), labels: 1:1 2:1 3:2 4:3 5:2 6:5. */
-    private static GroveMerge sample() {
-        GroveMerge x = new GroveMerge();
-        x.insert(0, 0, 1);
-        x.insert(0, 1, 1);
-        x.insert(1, 0, 2);
-        x.insert(1, 1, 3);
-        x.insert(2, 0, 2);
-        x.insert(4, 0, 5);
-        return x;
-    }
-
-    /** The working tree as a text: each node with its label, and its children in brackets. */
-    private static String tree(GroveMerge x) {
-        return tree(x, 0);
-    }
-
-    private static String tree(GroveMerge x, int node) {
-        StringBuilder text = new StringBuilder().append(node).append(':').append(x.about(node, 0));
-        int children = x.about(node, 2);
-        for (int i = 0; i < children; i++) {
-            text.append(i == 0 ? "(" : " ").append(tree(x, x.child(node, i)));
-        }
-        return text.append(children == 0 ? "" : ")").toString();
-    }
-
-    private static int path(int... steps) {
-        int path = 0;
-        for (int i = 0; i < steps.length; i++) {
-            path |= steps[i] << 5 * i;
-        }
-        return path;
-    }
-
-    private static int step(int axis, int label) {
-        return axis + 4 * label;
-    }
-
     private void treeIs(String what, GroveMerge x, String due) {
-        check.same(what, tree(x), due);
+        check.same(what, Groves.tree(x), due);
     }
 
     private void newObject() {
@@ -159,7 +121,7 @@ final class PromiseTest {
     }
 
     private void delete() {
-        GroveMerge x = sample();
+        GroveMerge x = Groves.sample();
         check.fails("delete, never made", MISSING, () -> x.delete(7));
         check.fails("delete the root", WRONG, () -> x.delete(0));
         check.is("delete a leaf", 1, () -> x.delete(3));
@@ -176,7 +138,7 @@ final class PromiseTest {
     }
 
     private void move() {
-        GroveMerge x = sample();
+        GroveMerge x = Groves.sample();
         check.done("move in its own row, back", () -> x.move(1, 0, 1));
         treeIs("place is counted without it", x, "0:0(2:1(5:2) 1:1(3:2 4:3(6:5)))");
         check.done("move in its own row, forth", () -> x.move(1, 0, 0));
@@ -210,7 +172,7 @@ final class PromiseTest {
     }
 
     private void relabel() {
-        GroveMerge x = sample();
+        GroveMerge x = Groves.sample();
         check.done("relabel a leaf", () -> x.relabel(3, 5));
         check.done("relabel the root", () -> x.relabel(0, 2));
         check.done("relabel to 0", () -> x.relabel(4, 0));
@@ -263,7 +225,7 @@ final class PromiseTest {
     }
 
     private void checkout() {
-        GroveMerge x = sample();
+        GroveMerge x = Groves.sample();
         x.commit();
         x.delete(1);
         x.relabel(0, 3);
@@ -310,27 +272,8 @@ final class PromiseTest {
         }
     }
 
-    /** 1 and 2 stand over 0; 3 and 4 each have both as parents; 5 comes from 1 alone. */
-    private static GroveMerge crossed() {
-        GroveMerge x = new GroveMerge();
-        x.insert(0, 0, 1);
-        x.commit();
-        x.checkout(0);
-        x.insert(0, 0, 2);
-        x.commit();
-        x.checkout(1);
-        x.merge(2);
-        x.commit();
-        x.checkout(2);
-        x.merge(1);
-        x.commit();
-        x.checkout(1);
-        x.commit();
-        return x;
-    }
-
     private void baseOfCrossedLines() {
-        GroveMerge x = crossed();
+        GroveMerge x = Groves.crossed();
         check.is("the least of two common ones", 1, () -> x.base(3, 4));
         check.is("the least of two common ones, turned", 1, () -> x.base(4, 3));
         check.is("one through the second parent", 2, () -> x.base(3, 2));
@@ -344,7 +287,7 @@ final class PromiseTest {
     }
 
     private void merge() {
-        GroveMerge x = sample();
+        GroveMerge x = Groves.sample();
         x.commit();
         x.delete(3);
         x.relabel(5, 0);
@@ -380,7 +323,7 @@ final class PromiseTest {
     }
 
     private void mergeGuards() {
-        GroveMerge x = sample();
+        GroveMerge x = Groves.sample();
         check.fails("merge, another node", UNREADY, () -> x.merge(0));
         x.commit();
         check.fails("merge, no such commit", MISSING, () -> x.merge(2));
@@ -453,7 +396,7 @@ final class PromiseTest {
 
     /** Base is commit 1, though commit 2 is common, too: its node 2 is new to both. */
     private void mergeOverAnOlderBase() {
-        GroveMerge x = crossed();
+        GroveMerge x = Groves.crossed();
         x.checkout(4);
         treeIs("both nodes are there", x, "0:0(1:1 2:2)");
         x.delete(2);
@@ -463,7 +406,7 @@ final class PromiseTest {
     }
 
     private void conflict() {
-        GroveMerge x = sample();
+        GroveMerge x = Groves.sample();
         x.commit();
         x.delete(1);
         x.relabel(2, 3);
@@ -499,7 +442,7 @@ final class PromiseTest {
     }
 
     private void conflictOfParents() {
-        GroveMerge x = sample();
+        GroveMerge x = Groves.sample();
         x.commit();
         x.move(3, 2, 0);
         x.move(5, 0, 0);
@@ -514,7 +457,7 @@ final class PromiseTest {
         check.is("of kind 3", 96 + 3, () -> x.conflict(0));
         check.is("only the least kind counts", 64 + 5, () -> x.conflict(1));
 
-        GroveMerge gone = sample();
+        GroveMerge gone = Groves.sample();
         gone.commit();
         gone.delete(4);
         gone.commit();
@@ -529,7 +472,7 @@ final class PromiseTest {
         check.is("of kind 4, new", 128 + 7, () -> gone.conflict(1));
         check.is("of kind 4, new and last", 128 + 8, () -> gone.conflict(2));
 
-        GroveMerge ring = sample();
+        GroveMerge ring = Groves.sample();
         ring.insert(0, 2, 0);
         ring.commit();
         ring.move(1, 5, 0);
@@ -548,7 +491,7 @@ final class PromiseTest {
         ring.commit();
         check.is("the ring again", 6, () -> ring.merge(2));
 
-        GroveMerge both = sample();
+        GroveMerge both = Groves.sample();
         both.commit();
         both.delete(3);
         both.move(1, 2, 0);
@@ -563,7 +506,7 @@ final class PromiseTest {
 
     /** A node that is in both but not in the base: its labels can't be told apart. */
     private void conflictOverAnOlderBase() {
-        GroveMerge x = crossed();
+        GroveMerge x = Groves.crossed();
         x.checkout(4);
         x.relabel(2, 5);
         x.commit();
@@ -586,7 +529,7 @@ final class PromiseTest {
     }
 
     private void about() {
-        GroveMerge x = sample();
+        GroveMerge x = Groves.sample();
         int[][] due = {{0, -1, 2, 0}, {1, 0, 2, 1}, {1, 0, 1, 5}, {2, 1, 0, 2}, {3, 1, 1, 3}, {2, 2, 0, 6}, {5, 4, 0, 4}};
         for (int node = 0; node < due.length; node++) {
             for (int part = 0; part < 4; part++) {
@@ -609,7 +552,7 @@ final class PromiseTest {
     }
 
     private void child() {
-        GroveMerge x = sample();
+        GroveMerge x = Groves.sample();
         check.is("child(0, 0)", 1, () -> x.child(0, 0));
         check.is("child(0, 1)", 2, () -> x.child(0, 1));
         check.is("child(1, 1)", 4, () -> x.child(1, 1));
@@ -626,7 +569,7 @@ final class PromiseTest {
     }
 
     private void nodes() {
-        GroveMerge x = sample();
+        GroveMerge x = Groves.sample();
         check.is("nodes(false)", 7, () -> x.nodes(false));
         check.is("nodes(true)", 7, () -> x.nodes(true));
         x.delete(4);
@@ -640,40 +583,40 @@ final class PromiseTest {
     }
 
     private void count() {
-        GroveMerge x = sample();
+        GroveMerge x = Groves.sample();
         check.is("no steps", 1, () -> x.count(0));
         check.is("no steps, bits above", 1, () -> x.count(-4));
-        check.is("children", 2, () -> x.count(path(step(1, 6))));
-        check.is("children, 7 for any", 2, () -> x.count(path(step(1, 7))));
-        check.is("children with a label", 2, () -> x.count(path(step(1, 1))));
-        check.is("children with label 0", 0, () -> x.count(path(step(1, 0))));
-        check.is("all below", 6, () -> x.count(path(step(2, 6))));
-        check.is("all below with a label", 2, () -> x.count(path(step(2, 2))));
-        check.is("the root is not below", 0, () -> x.count(path(step(2, 0))));
-        check.is("nothing behind the root", 0, () -> x.count(path(step(3, 6))));
-        check.is("behind in the row", 1, () -> x.count(path(step(1, 6), step(3, 6))));
-        check.is("behind with a label", 0, () -> x.count(path(step(1, 6), step(3, 2))));
-        check.is("each counted once", 4, () -> x.count(path(step(2, 6), step(2, 6))));
-        check.is("steps behind an end do not count", 2, () -> x.count(path(step(1, 6), step(0, 3), step(1, 6))));
-        check.is("bits 30 and 31 do not count", 2, () -> x.count(path(step(1, 6)) | 3 << 30));
-        check.is("a negative path of children", 2, () -> x.count(path(step(1, 6)) | 1 << 31));
+        check.is("children", 2, () -> x.count(Groves.path(Groves.step(1, 6))));
+        check.is("children, 7 for any", 2, () -> x.count(Groves.path(Groves.step(1, 7))));
+        check.is("children with a label", 2, () -> x.count(Groves.path(Groves.step(1, 1))));
+        check.is("children with label 0", 0, () -> x.count(Groves.path(Groves.step(1, 0))));
+        check.is("all below", 6, () -> x.count(Groves.path(Groves.step(2, 6))));
+        check.is("all below with a label", 2, () -> x.count(Groves.path(Groves.step(2, 2))));
+        check.is("the root is not below", 0, () -> x.count(Groves.path(Groves.step(2, 0))));
+        check.is("nothing behind the root", 0, () -> x.count(Groves.path(Groves.step(3, 6))));
+        check.is("behind in the row", 1, () -> x.count(Groves.path(Groves.step(1, 6), Groves.step(3, 6))));
+        check.is("behind with a label", 0, () -> x.count(Groves.path(Groves.step(1, 6), Groves.step(3, 2))));
+        check.is("each counted once", 4, () -> x.count(Groves.path(Groves.step(2, 6), Groves.step(2, 6))));
+        check.is("steps behind an end do not count", 2, () -> x.count(Groves.path(Groves.step(1, 6), Groves.step(0, 3), Groves.step(1, 6))));
+        check.is("bits 30 and 31 do not count", 2, () -> x.count(Groves.path(Groves.step(1, 6)) | 3 << 30));
+        check.is("a negative path of children", 2, () -> x.count(Groves.path(Groves.step(1, 6)) | 1 << 31));
 
         GroveMerge chain = new GroveMerge();
         for (int i = 0; i < 8; i++) {
             chain.insert(i, 0, i % 6);
         }
-        int five = path(25, 25, 25, 25, 25);
+        int five = Groves.path(25, 25, 25, 25, 25);
         check.is("five steps", 5, () -> chain.find(five, 0));
         check.is("six steps", 6, () -> chain.find(five | 25 << 25, 0));
         check.is("six steps and no seventh", 6, () -> chain.find(five | 25 << 25 | 1 << 30, 0));
-        check.is("six steps, the last with a label", 1, () -> chain.count(five | step(1, 5) << 25));
-        check.is("six steps, the last without fit", 0, () -> chain.count(five | step(1, 4) << 25));
+        check.is("six steps, the last with a label", 1, () -> chain.count(five | Groves.step(1, 5) << 25));
+        check.is("six steps, the last without fit", 0, () -> chain.count(five | Groves.step(1, 4) << 25));
     }
 
     private void find() {
-        GroveMerge x = sample();
+        GroveMerge x = Groves.sample();
         x.move(2, 0, 0);
-        int all = path(step(2, 6));
+        int all = Groves.path(Groves.step(2, 6));
         int[] due = {2, 5, 1, 3, 4, 6};
         for (int i = 0; i < due.length; i++) {
             int k = i;
@@ -687,15 +630,15 @@ final class PromiseTest {
         }
         check.is("find the root", 0, () -> x.find(0, 0));
         check.fails("find the root twice", MISSING, () -> x.find(0, 1));
-        check.is("find by the document order, not the number", 5, () -> x.find(path(step(2, 2)), 0));
-        check.is("find the next", 3, () -> x.find(path(step(2, 2)), 1));
-        check.is("find behind", 4, () -> x.find(path(step(2, 2), step(3, 6)), 0));
-        check.is("find below behind", 6, () -> x.find(path(step(2, 2), step(3, 3), step(1, 5)), 0));
-        check.fails("find nothing", MISSING, () -> x.find(path(step(3, 6)), 0));
+        check.is("find by the document order, not the number", 5, () -> x.find(Groves.path(Groves.step(2, 2)), 0));
+        check.is("find the next", 3, () -> x.find(Groves.path(Groves.step(2, 2)), 1));
+        check.is("find behind", 4, () -> x.find(Groves.path(Groves.step(2, 2), Groves.step(3, 6)), 0));
+        check.is("find below behind", 6, () -> x.find(Groves.path(Groves.step(2, 2), Groves.step(3, 3), Groves.step(1, 5)), 0));
+        check.fails("find nothing", MISSING, () -> x.find(Groves.path(Groves.step(3, 6)), 0));
         x.insert(1, 0, 0);
         x.insert(1, 3, 0);
-        check.is("all behind, not the next alone", 3, () -> x.count(path(step(2, 0), step(3, 7))));
-        check.is("behind, the last", 8, () -> x.find(path(step(2, 0), step(3, 7)), 2));
+        check.is("all behind, not the next alone", 3, () -> x.count(Groves.path(Groves.step(2, 0), Groves.step(3, 7))));
+        check.is("behind, the last", 8, () -> x.find(Groves.path(Groves.step(2, 0), Groves.step(3, 7)), 2));
     }
 
     private void alike() {
@@ -738,7 +681,7 @@ final class PromiseTest {
     }
 
     private void distance() {
-        GroveMerge x = sample();
+        GroveMerge x = Groves.sample();
         x.commit();
         check.is("of itself", 0, () -> x.distance(1, 1));
         check.is("to the root alone", 6, () -> x.distance(1, 0));
@@ -787,7 +730,7 @@ final class PromiseTest {
     }
 
     private void state() {
-        GroveMerge x = sample();
+        GroveMerge x = Groves.sample();
         x.commit();
         x.commit();
         x.checkout(1);
@@ -804,7 +747,7 @@ final class PromiseTest {
     }
 
     private void above() {
-        GroveMerge x = crossed();
+        GroveMerge x = Groves.crossed();
         int[][] due = {{-1, -1}, {0, -1}, {0, -1}, {1, 2}, {2, 1}, {1, -1}};
         for (int commit = 0; commit < due.length; commit++) {
             int c = commit;
@@ -836,10 +779,10 @@ final class PromiseTest {
         for (int i = 3; i < 12; i++) {
             x.commit();
         }
-        check.is("all below", 23, () -> x.count(path(step(2, 7))));
-        check.is("children of all below", 21, () -> x.count(path(step(2, 6), step(1, 6))));
-        check.is("behind all below", 12, () -> x.count(path(step(2, 6), step(3, 6))));
-        check.is("the last of all", 23, () -> x.find(path(step(2, 6)), 22));
+        check.is("all below", 23, () -> x.count(Groves.path(Groves.step(2, 7))));
+        check.is("children of all below", 21, () -> x.count(Groves.path(Groves.step(2, 6), Groves.step(1, 6))));
+        check.is("behind all below", 12, () -> x.count(Groves.path(Groves.step(2, 6), Groves.step(3, 6))));
+        check.is("the last of all", 23, () -> x.find(Groves.path(Groves.step(2, 6)), 22));
         check.is("alike the last", 15, () -> x.alike(23));
         check.is("the last child", 23, () -> x.child(2, 2));
         check.is("distance of a moved leaf", 2, () -> x.distance(1, 11));
