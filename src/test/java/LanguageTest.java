@@ -31,7 +31,9 @@ final class LanguageTest {
         String text = Files.readString(SOURCE).replaceAll("(?s)/\\*.*?\\*/", "");
         checkWords(check, text.replaceAll("\"[^\"]*\"", "\"\""));
         checkThrows(check, text);
-        checkMethods(check, text.replaceAll("\\n {12,}throws [^{]*", " ").lines().toList());
+        List<String> lines = text.replaceAll("\\n {12,}throws [^{]*", " ").lines().toList();
+        checkMethods(check, lines);
+        checkMade(check, lines);
         checkFields(check);
         check.end();
     }
@@ -71,6 +73,20 @@ final class LanguageTest {
             check.same("parameters of " + name, head.group(1).split(",").length <= 7, true);
         }
         check.same("the methods were seen", heads.size() > 60, true);
+    }
+
+    /** By rule 12 what a run makes is counted: here constructors and fields make all, but for what is thrown. */
+    private static void checkMade(Check check, List<String> lines) {
+        String head = "";
+        for (String line : lines) {
+            if (HEAD.matcher(line.stripTrailing()).matches()) {
+                head = line.strip();
+            }
+            boolean made = line.matches(".*\\bnew\\b.*") && !line.contains("throw new ");
+            boolean field = line.matches(" {4,8}(private )?final \\w+(\\[\\])* \\w+ = new .*");
+            boolean inConstructor = head.matches("(public )?(GroveMerge|Tree|History)\\(\\) \\{");
+            check.same("made once: " + line.strip(), !made || field || inConstructor, true);
+        }
     }
 
     private static void checkFields(Check check) {
